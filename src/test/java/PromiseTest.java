@@ -29,6 +29,7 @@ public final class PromiseTest {
         promise19ByValue();
         promise20SetValue();
         promise21Interpolate();
+        promise21InterpolateAgain();
         promise22Sample();
         promise23Misfit();
         promise24ExtremePoint();
@@ -517,6 +518,26 @@ public final class PromiseTest {
         due("a step", x.interpolate(4, 3), 16);
         due("c(1) of a step", x.coefficient(3, 1), stepCoefficient());
         due("no such power", x.interpolate(5, 3), Checks.INVALID);
+        due("only v(0) and v(1)", x.interpolate(0, 4), 0);
+        Checks.coefficients("only v(0) and v(1)", x, 4, MOST / 2);
+        x.basis(12, 5);
+        x.multiply(5, 5, 6);
+        x.interpolate(0, 6);
+        Checks.coefficients("nothing is left of earlier results", x, 6, MOST / 2);
+    }
+
+    /** T(k) at the points has the one coefficient k; the rest comes from the rounding of cosines. */
+    private static void promise21InterpolateAgain() {
+        CosineSeries x = new CosineSeries();
+        for (int k = 1; k <= 16; k++) {
+            x.basis(k, 0);
+            x.sample(0, 4);
+            x.interpolate(4, 1);
+            for (int i = 0; i <= 16; i++) {
+                long error = x.coefficient(1, i) - (i == k ? ONE : 0);
+                Checks.that("T(" + k + "), coefficient " + i, Math.abs(error) <= 12, "is off by " + error);
+            }
+        }
     }
 
     /** Both halves of a step from 2^27 to -2^27 give the same, and the value in the middle meets a cosine of 0. */
@@ -547,6 +568,10 @@ public final class PromiseTest {
         Checks.fill(x, 1, 1, -MOST / 2);
         due("too large at the end", x.sample(1, 2), Checks.OVERFLOW);
         due("an overflow changes nothing", x.setValue(0, 3), 3);
+        Checks.fill(x, 1, 1, MOST / 2);
+        due("too large at the beginning", x.sample(1, 2), Checks.OVERFLOW);
+        Checks.fill(x, 1, MOST / 2 + 1, 0, 0, 0, -1);
+        due("too large in the middle", x.sample(1, 3), Checks.OVERFLOW);
         Checks.fill(x, 1, -MOST / 2 - 1);
         due("too small", x.sample(1, 0), Checks.OVERFLOW);
         due("a wrong argument before an overflow", x.sample(1, 5), Checks.INVALID);
@@ -562,6 +587,9 @@ public final class PromiseTest {
         due("with fewer points", x.misfit(0, 0), Math.abs(-ONE - 1028428));
         x.setValue(16, 5 - ONE);
         due("the other one", x.misfit(0, 4), 20);
+        x.setValue(1, 5 - ONE);
+        x.setValue(2, MOST / 2);
+        due("later values do not count", x.misfit(0, 0), 0);
         CosineSeries y = new CosineSeries();
         for (int k = 0; k <= 24; k++) {
             y.setCoefficient(0, k, MOST);
@@ -606,7 +634,7 @@ public final class PromiseTest {
         due("no more", x.root(1, 24), Checks.MISSING);
     }
 
-    /** One step of the root's own neighbourhood, at the ends of the whole interval. */
+    /** Roots at the ends of the whole interval, and just beyond: the slack of a series of degree 1 is 16. */
     private static void promise25RootEnds() {
         CosineSeries x = with(-ONE, ONE);
         due("number for x - 1", x.root(0, -1), 1);
@@ -642,6 +670,9 @@ public final class PromiseTest {
         due("1 - x * x", x.greatest(0), ONE);
         Checks.fill(x, 0, ONE / 2, 0, ONE / 2);
         due("x * x", x.greatest(0), ONE);
+        // -4 x^3 + 3.5 x has its greatest value within, 1.260144, where its derivative's last roots are.
+        Checks.fill(x, 0, 0, ONE / 2, 0, -ONE);
+        Checks.that("at the last roots", Math.abs(x.greatest(0) - 1321357) <= 4, "is " + x.greatest(0));
         Checks.fill(x, 0, 0, -5000);
         due("at -ONE", x.greatest(0), 5000);
         Checks.fill(x, 0, 0, 7000);

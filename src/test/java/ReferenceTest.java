@@ -4,7 +4,7 @@ import java.util.Map;
 
 /** Long runs of calls, ordinary and odd ones, whose answers are compared with those of Reference. */
 public final class ReferenceTest {
-    private static final int RUNS = 1500;
+    private static final int RUNS = 500;
     private static final int CALLS_BEFORE_THE_LAST_LOOK = 260;
 
     /** A method's name, how often it is called, and the kinds of its arguments. */
