@@ -1,8 +1,9 @@
 import java.lang.reflect.Method;
-import java.util.ArrayList;
-import java.util.List;
 
-/** Each argument of each method at the ends of its range and beyond them; a refused call changes nothing. */
+/**
+ * The range of each argument, promise by promise: one below its least, its least, its greatest, one above. A call
+ * that is taken answers and does what Reference does; one that is refused changes nothing.
+ */
 public final class RangeTest {
     private static final int SERIES = 0;
     private static final int INDEX = 1;
@@ -22,49 +23,58 @@ public final class RangeTest {
         7, 24, 268435456, 1048576, 1000, 1000000000, 16, 134217728, 4, Integer.MAX_VALUE
     };
 
+    private static Method method;
+    private static CosineSeries program;
+    private static Reference reference;
+
     public static void main(String[] args) throws Exception {
-        ranges("setCoefficient", SERIES, INDEX, COEFFICIENT);
-        ranges("coefficient", SERIES, INDEX);
-        ranges("degree", SERIES);
-        ranges("copy", SERIES, SERIES);
-        ranges("value", SERIES, NUMBER);
-        ranges("add", SERIES, FACTOR, SERIES, FACTOR, SERIES);
-        ranges("multiply", SERIES, SERIES, SERIES);
-        ranges("differentiate", SERIES, SERIES);
-        ranges("antidifferentiate", SERIES, SERIES);
-        ranges("compose", SERIES, SERIES, SERIES);
-        ranges("divide", SERIES, NUMBER, SERIES);
-        ranges("cut", SERIES, TOLERANCE);
-        ranges("basis", INDEX, SERIES);
-        ranges("integral", SERIES);
-        ranges("inner", SERIES, SERIES);
-        ranges("bound", SERIES);
-        ranges("degreeWith", SERIES, TOLERANCE);
-        ranges("byValue", SERIES, INDEX);
-        ranges("setValue", POINT, POINT_VALUE);
-        ranges("interpolate", POWER, SERIES);
-        ranges("sample", SERIES, POWER);
-        ranges("misfit", SERIES, POWER);
-        ranges("extremePoint", POWER, POINT);
-        ranges("root", SERIES, ROOT);
-        ranges("intervals", SERIES);
-        ranges("greatest", SERIES);
+        ranges(2, "setCoefficient", SERIES, INDEX, COEFFICIENT);
+        ranges(3, "coefficient", SERIES, INDEX);
+        ranges(4, "degree", SERIES);
+        ranges(5, "copy", SERIES, SERIES);
+        ranges(6, "value", SERIES, NUMBER);
+        ranges(7, "add", SERIES, FACTOR, SERIES, FACTOR, SERIES);
+        ranges(8, "multiply", SERIES, SERIES, SERIES);
+        ranges(9, "differentiate", SERIES, SERIES);
+        ranges(10, "antidifferentiate", SERIES, SERIES);
+        ranges(11, "compose", SERIES, SERIES, SERIES);
+        ranges(12, "divide", SERIES, NUMBER, SERIES);
+        ranges(13, "cut", SERIES, TOLERANCE);
+        ranges(14, "basis", INDEX, SERIES);
+        ranges(15, "integral", SERIES);
+        ranges(16, "inner", SERIES, SERIES);
+        ranges(17, "bound", SERIES);
+        ranges(18, "degreeWith", SERIES, TOLERANCE);
+        ranges(19, "byValue", SERIES, INDEX);
+        ranges(20, "setValue", POINT, POINT_VALUE);
+        ranges(21, "interpolate", POWER, SERIES);
+        ranges(22, "sample", SERIES, POWER);
+        ranges(23, "misfit", SERIES, POWER);
+        ranges(24, "extremePoint", POWER, POINT);
+        ranges(25, "root", SERIES, ROOT);
+        ranges(26, "intervals", SERIES);
+        ranges(27, "greatest", SERIES);
         Checks.finish("RangeTest");
     }
 
-    private static void ranges(String name, int... kinds) throws Exception {
-        Method method = methodNamed(name);
+    private static void ranges(int promise, String name, int... kinds) throws Exception {
+        Checks.about("Promise " + promise + ", the ranges of its arguments");
+        method = methodNamed(name);
         for (int i = 0; i < kinds.length; i++) {
-            int[] arguments = ordinary(kinds);
-            refused(method, arguments, i, Integer.MIN_VALUE);
-            refused(method, arguments, i, LEAST[kinds[i]] - 1);
-            taken(method, arguments, i, LEAST[kinds[i]]);
-            taken(method, arguments, i, MOST[kinds[i]]);
-            if (MOST[kinds[i]] < Integer.MAX_VALUE) {
-                refused(method, arguments, i, MOST[kinds[i]] + 1);
-                refused(method, arguments, i, Integer.MAX_VALUE);
+            int least = LEAST[kinds[i]];
+            int most = MOST[kinds[i]];
+            refused(kinds, i, Integer.MIN_VALUE);
+            refused(kinds, i, least - 1);
+            taken(kinds, i, least);
+            taken(kinds, i, least + 1);
+            taken(kinds, i, most - 1);
+            taken(kinds, i, most);
+            if (most < Integer.MAX_VALUE) {
+                refused(kinds, i, most + 1);
+                refused(kinds, i, Integer.MAX_VALUE);
             }
         }
+        allRefusedAtOnce(kinds);
     }
 
     private static Method methodNamed(String name) {
@@ -76,59 +86,83 @@ public final class RangeTest {
         throw new IllegalStateException("no method " + name);
     }
 
-    /** The greatest power goes with every point; all else is in the middle. */
-    private static int[] ordinary(int[] kinds) {
+    /** The greatest power goes with every point, and the point 1 with every power; all else is in the middle. */
+    private static int[] ordinary(int[] kinds, int place, int argument) {
         int[] arguments = new int[kinds.length];
         for (int i = 0; i < kinds.length; i++) {
             arguments[i] = kinds[i] == POWER ? 4 : kinds[i] == SERIES ? i % 3 : kinds[i] == ROOT ? 0 : 1;
         }
+        arguments[place] = argument;
         return arguments;
     }
 
-    private static void refused(Method method, int[] ordinary, int place, int argument) throws Exception {
-        CosineSeries x = prepared();
-        List<Long> before = state(x);
-        long got = answer(x, method, ordinary, place, argument);
-        Checks.due(method.getName() + " with argument " + place + " = " + argument, got, Checks.INVALID);
-        Checks.that(method.getName(), before.equals(state(x)), "was refused, and changed something");
+    private static void refused(int[] kinds, int place, int argument) throws Exception {
+        prepare();
+        compare(ordinary(kinds, place, argument), true);
     }
 
-    private static void taken(Method method, int[] ordinary, int place, int argument) throws Exception {
-        long got = answer(prepared(), method, ordinary, place, argument);
-        Checks.that(method.getName() + " with argument " + place + " = " + argument, got != Checks.INVALID, "was refused");
+    private static void taken(int[] kinds, int place, int argument) throws Exception {
+        prepare();
+        compare(ordinary(kinds, place, argument), false);
     }
 
-    private static long answer(CosineSeries x, Method method, int[] ordinary, int place, int argument) throws Exception {
-        Object[] arguments = new Object[ordinary.length];
-        for (int i = 0; i < arguments.length; i++) {
-            arguments[i] = i == place ? argument : ordinary[i];
+    private static void allRefusedAtOnce(int[] kinds) throws Exception {
+        int[] below = new int[kinds.length];
+        int[] above = new int[kinds.length];
+        for (int i = 0; i < kinds.length; i++) {
+            below[i] = LEAST[kinds[i]] - 1;
+            above[i] = kinds[i] == ROOT ? -2 : MOST[kinds[i]] + 1;
         }
-        return (Long) method.invoke(x, arguments);
+        prepare();
+        compare(below, true);
+        prepare();
+        compare(above, true);
     }
 
-    private static CosineSeries prepared() {
-        CosineSeries x = new CosineSeries();
-        for (int i = 0; i < 8; i++) {
-            x.setCoefficient(i, i % 3 + 1, 1048576 + 1000 * i);
+    /** The reference is asked with the program, so that both tell which calls are refused. */
+    private static void compare(int[] arguments, boolean isRefused) throws Exception {
+        Object[] boxed = new Object[arguments.length];
+        StringBuilder text = new StringBuilder(method.getName());
+        for (int i = 0; i < boxed.length; i++) {
+            boxed[i] = arguments[i];
+            text.append(i == 0 ? "(" : ", ").append(arguments[i]);
         }
-        x.setValue(0, 5);
-        x.setValue(16, -7);
-        return x;
+        String what = text.append(")").toString();
+        long got = (Long) method.invoke(program, boxed);
+        Checks.that(what, (got == Checks.INVALID) == isRefused, isRefused ? "was taken" : "was refused");
+        Checks.due(what, got, reference.answer(method.getName(), arguments));
+        compareStates(what);
     }
 
-    private static List<Long> state(CosineSeries x) {
-        List<Long> state = new ArrayList<>();
+    /** Where a call is refused, the reference is as it was prepared. */
+    private static void compareStates(String what) {
+        long[] state = Checks.lastState(program);
+        int place = 0;
         for (int i = 0; i < 8; i++) {
-            state.add(x.degree(i));
+            Checks.due(what + ", then degree(" + i + ")", state[place++], ask("degree", i));
             for (int k = 0; k <= 24; k++) {
-                state.add(x.coefficient(i, k));
+                Checks.due(what + ", then coefficient(" + i + ", " + k + ")", state[place++], ask("coefficient", i, k));
             }
         }
         for (int j = 0; j <= 16; j++) {
-            long previous = x.setValue(j, 0);
-            x.setValue(j, (int) previous);
-            state.add(previous);
+            Checks.due(what + ", then setValue(" + j + ", 0)", state[place++], ask("setValue", j, 0));
         }
-        return state;
+    }
+
+    private static long ask(String name, int... arguments) {
+        return reference.answer(name, arguments);
+    }
+
+    private static void prepare() {
+        program = new CosineSeries();
+        reference = new Reference();
+        for (int i = 0; i < 8; i++) {
+            program.setCoefficient(i, i % 3 + 1, 1048576 + 1000 * i);
+            ask("setCoefficient", i, i % 3 + 1, 1048576 + 1000 * i);
+        }
+        program.setValue(0, 5);
+        ask("setValue", 0, 5);
+        program.setValue(16, -7);
+        ask("setValue", 16, -7);
     }
 }
