@@ -163,6 +163,9 @@ public final class SectionErrorsTest {
         Checks.due("differentiate", x.differentiate(2, 3), 0);
         Checks.coefficients("differentiate", x, 3, 8);
         x.multiply(0, 0, 3);
+        Checks.due("antidifferentiate", x.antidifferentiate(2, 3), 2);
+        Checks.coefficients("antidifferentiate", x, 3, 5, 7, 2);
+        x.multiply(0, 0, 3);
         Checks.due("divide", x.divide(2, 0, 3), 7);
         Checks.coefficients("divide", x, 3, 8);
         x.compose(0, 0, 3);
